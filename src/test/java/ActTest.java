@@ -48,6 +48,8 @@ public final class ActTest {
         CHECK.due("who has less than is HIDDEN hides all", x.person(1, 1), 4);
         CHECK.due("the other got it", x.person(0, 0), 3);
         CHECK.due("no DAY", x.count(6), 0);
+        CHECK.due("gives one", x.act(1, 0, 0, 1, 0), 3);
+        CHECK.due("the other got it", x.person(0, 0), 4);
     }
 
     private static void tellActs(SixStroke x, int slot, int... numbers) {
@@ -123,6 +125,11 @@ public final class ActTest {
         x.hide(0, 4);
         CHECK.due("what he hides he keeps: SHOWN 6", x.value(0, 0, 0, 0, -1), 50);
         CHECK.due("eats all but 2, which he hides", x.value(0, 0, 8, 0, -1), 10 + 15);
+        x.sight(1, 0, 6);
+        CHECK.due("1 has 7 and sees 6 of 0's 6", x.value(1, 0, 0, 0, -1), 6);
+        x.hide(0, 5);
+        CHECK.due("1 sees 0 of 0's 5", x.value(1, 0, 0, 0, -1), 2);
+        x.hide(0, 4);
         CHECK.due("all stays", x.person(0, 0), 10);
     }
 
@@ -163,6 +170,22 @@ public final class ActTest {
         CHECK.due("no such person", x.best(3, 1), -2);
         CHECK.due("no such person", x.best(-1, 4), -2);
         CHECK.due("no such person", x.best(-1, 9), -2);
+        SixStroke one = Check.town("town steps 20;" + Check.person(8, "1 1 1 1 1", "work") + Check.person(10, "0 1 5 0 0", "best")
+                + "sees 1 0 within 7;");
+        CHECK.due("8 is seen as 7: gives 1", one.best(1, 3), 1);
+        CHECK.due("9 less 1, 8", one.best(1, 0), 40);
+        one.sight(1, 0, 1);
+        CHECK.due("gives 1", one.best(1, 3), 1);
+        CHECK.due("9 and 9", one.best(1, 0), 45);
+        SixStroke gains = Check.town("town steps 20;law over 0 ties 3 goes shared;" + Check.person(10, "0 1 5 1 1", "best").repeat(3));
+        CHECK.due("eats all, so that two lose all to him", gains.best(0, 2), 10);
+        CHECK.due("its VALUE", gains.best(0, 0), 101);
+        SixStroke raised = Check.town("town steps 20;" + Check.person(4, "0 1 5 3 0", "best") + Check.person(8, "1 1 1 1 1", "work")
+                + Check.person(20, "1 1 1 1 1", "work"));
+        raised.stroke();
+        raised.law(30, 2, 0, true);
+        CHECK.due("eats all, being raised to 8", raised.best(0, 2), 4);
+        CHECK.due("its VALUE", raised.best(0, 0), 52);
         SixStroke lazy = Check.town("town steps 20;" + Check.person(3, "1 50 5 4 0", "best") + Check.person(7, "1 1 1 1 1", "work"));
         int[] rest = {15, 0, 0, 0, -1};
         for (int what = 0; what < 5; what++) {
@@ -201,6 +224,9 @@ public final class ActTest {
         CHECK.due("who would lose, and who likes eating more", x.restless(), 5);
         x.have(0, 7);
         CHECK.due("two have the MOST", x.restless(), 4);
+        x.sight(1, 0, 6);
+        CHECK.due("the second sees 6 of 7", x.restless(), 6);
+        x.sight(1, 0, 1);
         x.have(2, 0);
         CHECK.due("who has nothing rests", x.restless(), 0);
     }
@@ -248,6 +274,24 @@ public final class ActTest {
         CHECK.due("knowing the one who has much", half.knows(0, 2), 20);
         SixStroke alone = Check.town("town steps 5;" + Check.person(3, "1 1 1 1 1", "best"));
         CHECK.due("alone", alone.know(0), 0);
+        // 7 seen as 5: gives 2 for 7 at 7; truly that is 8 at 9, and nothing is better
+        SixStroke lucky = Check.town("town steps 20;" + Check.person(10, "0 1 5 0 0", "best") + Check.person(7, "1 1 1 1 1", "work")
+                + "sees 0 1 within 5;");
+        CHECK.due("gives by what he SEES", lucky.best(0, 3), 2);
+        CHECK.due("knowing is worth nothing", lucky.know(0), 0);
+        CHECK.due("nor knowing the one", lucky.knows(0, 1), 0);
+        // the second sees the first's 9 as 0: works (10) and gives 5; truly works, 10 at 9: 9 either way
+        SixStroke works = Check.town("town steps 20;" + Check.person(9, "1 1 1 1 1", "work") + Check.person(6, "4 1 5 0 0", "best")
+                + Check.person(0, "1 1 1 1 1", "work") + "sees 1 0 within 10;");
+        CHECK.due("works", works.best(1, 1) * 100 + works.best(1, 3) * 10 + works.best(1, 4), 150);
+        CHECK.due("9 instead of 5", works.know(1), 20);
+        CHECK.due("knowing the first", works.knows(1, 0), 20);
+        CHECK.due("knowing the third", works.knows(1, 2), 0);
+        // too tired to work: 10 against 9 seen as 0
+        SixStroke tired = Check.town("town steps 20;" + Check.person(9, "1 1 1 1 1", "work") + Check.person(10, "4 90 5 0 0", "best")
+                + "sees 1 0 within 10;");
+        CHECK.due("rests, gives 5", tired.best(1, 1) * 100 + tired.best(1, 3), 5);
+        CHECK.due("9 instead of 5", tired.know(1), 20);
     }
 
     private static void hiding() {
@@ -272,6 +316,15 @@ public final class ActTest {
         CHECK.due("all stays", x.person(0, 1), 0);
         x.hide(0, 4);
         CHECK.due("what is HIDDEN now does not count", x.hides(0, 0), 30);
+        x.sight(1, 0, 7);
+        x.have(1, 8);
+        // 1 has 8 and sees 0 of 0's 6: hides nothing: 0; hides 2: 2, gone: 0
+        CHECK.due("by what he SEES", x.hides(1, 0), 0);
+        CHECK.due("by what he SEES: 6 * 75 by 100", x.hides(1, 2), 4);
+        CHECK.due("edge: 6 - 6 f / 100 below 1", x.edge(1, 2), 84);
+        SixStroke whole = Check.town("town steps 20;" + Check.person(20, "0 1 20 0 0", "work") + Check.person(10, "1 1 3 1 1", "work"));
+        // 400 hidden, 200 gone, 200 open: by 99 it is 202
+        CHECK.due("edge 100", whole.edge(0, 10), 100);
         // with least, 1 shows 6 and the WELL has plenty: even found he would be raised to 6
         SixStroke never = Check.town("town steps 20;law over 30 ties 2 goes well least;" + Check.person(10, "0 1 5 0 0", "work")
                 + Check.person(12, "1 1 3 1 1", "work") + Check.person(11, "1 1 3 1 1", "work"));

@@ -19,6 +19,7 @@ public final class DaysTest {
         againAndAlike();
         followsRow();
         plans();
+        eightPeople();
         CHECK.close();
     }
 
@@ -84,6 +85,9 @@ public final class DaysTest {
         // both are seen with 4: 3 go to the first
         blurred.run(1);
         has("the first he SEES with TOP", blurred, 7, 7, 5);
+        SixStroke back = Check.town("town steps 20;" + Check.person(4, "0 1 4 1 1", "work") + Check.person(10, "0 2 5 8 3", "match"));
+        back.run(1);
+        has("to the first", back, 7, 7);
         SixStroke alone = Check.town("town steps 20;" + Check.person(5, "3 2 5 8 3", "match"));
         CHECK.due("alone he gives nothing and loses all", alone.run(1), 8);
         SixStroke full = Check.town("town steps 10;" + Check.person(10, "0 2 5 8 3", "match") + Check.person(10, "0 1 4 1 1", "hide 5"));
@@ -102,9 +106,12 @@ public final class DaysTest {
         SixStroke self = Check.town("town steps 20;" + man + Check.person(10, "3 2 5 8 3", "league 1"));
         self.run(1);
         has("with himself", self, 4, 4);
-        SixStroke untold = Check.town("town steps 20;" + man + Check.person(10, "3 2 5 8 3", "league 2"));
+        SixStroke untold = Check.town("town steps 20;law over 30 ties 2 goes well;" + man + Check.person(10, "3 2 5 8 3", "league 2"));
         untold.run(1);
-        has("with one who is not told", untold, 4, 4);
+        has("with one who is not told", untold, 4, 13);
+        SixStroke last = Check.town("town steps 20;law over 30 ties 2 goes well;" + man + Check.person(10, "3 2 5 8 3", "league 7"));
+        last.run(1);
+        has("with the eighth", last, 4, 13);
         SixStroke more = Check.town("town steps 20;law over 30 ties 2 goes well;" + Check.person(15, "0 1 4 1 1", "work")
                 + Check.person(10, "3 2 5 8 3", "league 0"));
         more.run(1);
@@ -152,6 +159,11 @@ public final class DaysTest {
         turned.run(1);
         // 10 sees 4, gives 3: 7; the other has 7 and gets 6: 13, loses 6
         has("the first by what was", turned, 7, 7);
+        SixStroke blurred = Check.town("town steps 20;" + Check.person(9, "0 0 5 0 0", "work") + Check.person(10, "0 1 5 0 0", "best")
+                + "sees 1 0 within 10;");
+        // 9 is seen as 0: gives 5; then 14 loses 9
+        CHECK.due("lost", blurred.run(1), 9);
+        has("by what he SEES", blurred, 5, 5);
     }
 
     private static void totals() {
@@ -168,6 +180,9 @@ public final class DaysTest {
         x.hide(1, 0);
         CHECK.due("no DAY", x.count(6), 0);
         CHECK.due("two DAYS of work: 13 to 5, 8 to 5", x.total(0, 4, 2), 46);
+        x.act(0, 1, 3, 0, -1);
+        CHECK.due("GOOD there is does not count", x.total(0, 4, 2), 46);
+        x.have(0, 10);
         CHECK.due("person 2", x.total(2, 0, 1), Check.NOTHING);
         CHECK.due("WAY 6", x.total(0, 6, 1), Check.NOTHING);
         CHECK.due("WAY -1", x.total(0, -1, 1), Check.NOTHING);
@@ -217,6 +232,11 @@ public final class DaysTest {
         CHECK.due("30 DAYS", x.idle(30), 60);
         x.turnsTo(0, 4);
         CHECK.due("one rests", x.idle(3), 3);
+        SixStroke busy = Check.town("town steps 20;law over 30 ties 2 goes well;" + Check.person(3, "1 1 5 0 0", "best") + Check.person(9, "0 1 1 1 1", "work"));
+        CHECK.due("who works is not idle", busy.idle(3), 0);
+        // 8 at 7 would be 7 and tire him
+        SixStroke lawful = Check.town("town steps 20;" + Check.person(7, "1 2 5 0 0", "best") + Check.person(7, "0 1 1 1 1", "work"));
+        CHECK.due("with the law he rests", lawful.idle(2), 2);
     }
 
     private static void spreads() {
@@ -271,6 +291,11 @@ public final class DaysTest {
         CHECK.due("n 31", x.laws(31), -2);
         x.have(0, 4);
         CHECK.due("all alike: the first", x.laws(1), 2);
+        // one DAY: 5 4 5, which 3 levels; two DAYS: 5 5 5 by 2, 4 4 4 by 3
+        SixStroke later = Check.town("town steps 12;law over 0 ties 4 goes burnt;" + Check.person(3, "2 0 1 0 0", "eat")
+                + Check.person(3, "1 0 1 0 0", "work") + Check.person(9, "2 0 1 0 0", "eat"));
+        CHECK.due("one DAY", later.laws(1), 3);
+        CHECK.due("two DAYS", later.laws(2), 2);
         SixStroke three = Check.town("town steps 20;" + Check.person(10, "0 0 1 1 1", "work") + tail);
         CHECK.due("three are above: 4 takes it", three.laws(1), 4);
     }
@@ -305,6 +330,7 @@ public final class DaysTest {
         SixStroke x = Check.town("town steps 20;" + Check.person(10, "3 2 5 8 3", "work") + Check.person(7, "3 1 4 1 1", "work")
                 + Check.person(4, "5 0 3 1 1", "work"));
         CHECK.due("behind two 13 13 13", x.alike(30), 2);
+        CHECK.due("behind just two", x.alike(2), 2);
         CHECK.due("not behind one", x.alike(1), -1);
         CHECK.due("n 0", x.alike(0), -2);
         CHECK.due("n 31", x.alike(31), -2);
@@ -314,6 +340,18 @@ public final class DaysTest {
         CHECK.due("all stays", x.count(6), 0);
         SixStroke still = Check.town("town steps 20;" + Check.person(7, "3 2 5 8 3", "eat") + Check.person(7, "0 1 4 1 1", "work"));
         CHECK.due("all as now at once", still.again(5), 1);
+        // 9 7, then 7 9, then 9 7
+        SixStroke turns = Check.town("town steps 20;law over 0 ties 2 goes shared;" + Check.person(9, "0 2 5 8 3", "work")
+                + Check.person(7, "0 1 4 1 1", "work"));
+        CHECK.due("behind two", turns.again(2), 2);
+        CHECK.due("not behind one", turns.again(1), -1);
+        turns.run(1);
+        turns.pays(0, 1);
+        CHECK.due("as they HAVE now", turns.again(5), 2);
+        CHECK.due("the law is as it was", turns.person(0, 0), 7);
+        SixStroke first = Check.town("town steps 20;" + Check.person(3, "1 2 5 8 3", "work") + Check.person(9, "0 1 4 1 1", "work")
+                + Check.person(9, "0 1 4 1 1", "work"));
+        CHECK.due("the first alone has more", first.again(4), -1);
         SixStroke lent = Check.town("town steps 20;" + Check.person(5, "0 2 5 8 3", "work") + Check.person(9, "0 1 4 1 1", "work")
                 + Check.person(9, "0 1 4 1 1", "work"));
         lent.law(0, 4, 0, false);
@@ -349,6 +387,12 @@ public final class DaysTest {
         CHECK.due("person 2", x.follows(2, 0), Check.NOTHING);
         row(x, 0, 4, 6);
         CHECK.due("6 is no WAY", x.follows(0, 0), Check.NOTHING);
+        row(x, 0, 4);
+        CHECK.due("one number", x.follows(0, 0), 23);
+        x.act(0, 1, 3, 0, -1);
+        CHECK.due("GOOD there is does not count", x.follows(0, 0), 23);
+        CHECK.due("nor in plan()", x.plan(0, 1, 0), x.total(0, x.plan(0, 1, 1), 1));
+        x.have(0, 10);
         row(x, 0, -1);
         CHECK.due("-1 is no WAY", x.follows(0, 0), Check.NOTHING);
         x.row(1, 0, 30);
@@ -393,5 +437,45 @@ public final class DaysTest {
         SixStroke poor = Check.town("town steps 20;law over 30 ties 2 goes well;" + Check.person(1, "1 0 5 0 0", "work") + Check.person(9, "0 1 4 1 1", "work"));
         CHECK.due("all alike: the first", poor.plan(0, 3, 1) + poor.plan(0, 3, 2) + poor.plan(0, 3, 3), 0);
         CHECK.due("all stays", poor.count(6), 0);
+        CHECK.due("most now", poor.plan(0, 1, 0), 10);
+        poor.have(0, 0);
+        CHECK.due("less then", poor.plan(0, 1, 0), 5);
+    }
+
+    /** As many as can be: 0 has 10, the others 9 .. 3, each working for 1. */
+    private static void eightPeople() {
+        StringBuilder b = new StringBuilder("town steps 20;law over 0 ties 2 goes shared least;found 100;");
+        String[] ways = {"eat", "match", "league 0", "hide 2", "work", "best", "work", "best"};
+        for (int p = 0; p < 8; p++) {
+            b.append(Check.person(10 - p, "1 0 1 0 0", ways[p]));
+        }
+        SixStroke x = Check.town(b.toString());
+        CHECK.due("tops", x.tops(), 1);
+        CHECK.due("next", x.next(), 9);
+        CHECK.due("the eighth", x.person(7, 0), 3);
+        CHECK.due("seen", x.seen(7, 0), 10);
+        CHECK.due("spread", x.spread(), 84);
+        CHECK.due("gifts", x.gifts(0), 1);
+        CHECK.due("third", x.third(7), 0);
+        CHECK.due("restless", x.restless(), 0);
+        CHECK.due("rests", x.rests(1), -2);
+        CHECK.due("best of the eighth", x.best(7, 0), 4);
+        CHECK.due("knowing", x.know(7), 0);
+        CHECK.due("GOOD of all", x.beside(3, 3), goodOfAll(x));
+        CHECK.due("no DAY like now", x.again(3), -1);
+        CHECK.due("open", x.open(), 0);
+        x.run(1);
+        CHECK.due("DAY", x.count(6), 1);
+        x.stroke();
+        CHECK.due("people", x.count(1), 8);
+    }
+
+    /** GOOD behind three DAYS, person by person. */
+    private static int goodOfAll(SixStroke x) {
+        int sum = 0;
+        for (int p = 0; p < 8; p++) {
+            sum += x.total(p, x.person(p, 2), 3);
+        }
+        return sum;
     }
 }

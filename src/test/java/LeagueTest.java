@@ -73,6 +73,12 @@ public final class LeagueTest {
         x.sight(0, 1, 6);
         CHECK.due("the one sees 10 as 6", x.leaves(0, 1), 1);
         CHECK.due("and told the other way round", x.leaves(1, 0), 2);
+        SixStroke uneven = of("law over 0 ties 3 goes well;", 10, 3, 8);
+        CHECK.due("both at 10 would lose 2", uneven.leaves(0, 1), 3);
+        CHECK.due("whoever of them has more", uneven.leaves(1, 0), 3);
+        uneven.hide(1, 3);
+        // 10 and 7 SHOWN of 10: the one alone loses
+        CHECK.due("what is HIDDEN stays so", uneven.leaves(0, 1), 1);
     }
 
     private static void breaks() {
@@ -108,6 +114,10 @@ public final class LeagueTest {
         CHECK.due("he has not so much", x.lend(0, 1, 11), -5);
         CHECK.due("more than steps", x.lend(0, 2, 1), -5);
         CHECK.due("no LOANS", x.count(5), 0);
+        x.keep(0);
+        x.have(2, 19);
+        CHECK.due("just to steps", x.lend(0, 2, 1), 1);
+        x.back(0);
         CHECK.due("all that he HAS", x.lend(0, 1, 10), 1);
         for (int i = 2; i <= 6; i++) {
             CHECK.due("LOAN " + i, x.lend(1, 0, 1), i);
@@ -144,6 +154,14 @@ public final class LeagueTest {
         }
         CHECK.due("LOANS there are aside", x.round(2, 0), 1);
         CHECK.due("all stays", x.count(5), 6);
+        SixStroke all = Check.town("town steps 30;" + Check.person(30, "1 1 5 3 1", "work") + Check.person(0, "1 1 5 3 1", "work"));
+        all.hide(0, 30);
+        CHECK.due("whatever is lent, the other shows it alone", all.round(0, 1), -1);
+        all.law(29, 2, 0, false);
+        CHECK.due("over 29", all.round(0, 1), 1);
+        all.law(0, 2, 0, false);
+        all.hide(0, 0);
+        CHECK.due("15 and 15", all.round(0, 1), 15);
         SixStroke full = of("law over 30 ties 2 goes well;", 3, 20);
         CHECK.due("more than steps", full.round(0, 1), -1);
         CHECK.due("he has so much", full.round(1, 0), 1);
@@ -190,5 +208,21 @@ public final class LeagueTest {
         CHECK.due("not 0 .. 10,000", out.mixed(0, 1), -1);
         CHECK.due("told the other way round: A -2, B -5", out.mixed(1, 0), 4000);
         CHECK.due("the other always eats, then the one", out.duel(0, 1), 8);
+        SixStroke zero = Check.town("town steps 20;" + Check.person(5, "0 0 5 3 0", "work") + Check.person(5, "0 0 5 5 0", "work")
+                + Check.person(3, "0 0 1 1 1", "work"));
+        // A: 20 + 5 - 25 = 0; if the one eats: 25 - 20 = 5; B = -5
+        CHECK.due("none of 10,000", zero.mixed(0, 1), 0);
+        SixStroke all = Check.town("town steps 20;" + Check.person(5, "0 0 5 3 0", "work") + Check.person(5, "0 0 5 0 0", "work")
+                + Check.person(3, "0 0 1 1 1", "work"));
+        // A: 20 - 25 = -5; if the one eats: 20 - 20 = 0; B = -5
+        CHECK.due("all of 10,000", all.mixed(0, 1), 10000);
+        // the other hides all of 3 and eats one: 0 SHOWN all the same, raised to 4 either way
+        SixStroke raised = Check.town("town steps 20;" + Check.person(4, "0 0 5 0 0", "work") + Check.person(3, "0 0 5 3 0", "work")
+                + Check.person(20, "0 0 1 1 1", "work"));
+        raised.stroke();
+        raised.law(30, 2, 0, true);
+        raised.hide(1, 3);
+        // WELL 16; neither: 3 + 4, 35; the other eats: 2 + 4, 30 + 3
+        CHECK.due("neither", raised.duel(0, 1), 1);
     }
 }

@@ -115,6 +115,16 @@ public final class SlotTest {
             CHECK.due("cut to WIDTH " + width, withRow(width, beyond[width] + 3).judge(0), 1);
             CHECK.due("its highest bit is a sign " + width, withRow(width, 1L << ((8 << width) - 1)).judge(0), 0);
         }
+        SixStroke anew = withRow(0, 3);
+        anew.write(0, 0, 7);
+        CHECK.due("no person 7", anew.judge(0), 0);
+        anew.row(0, 0, 5);
+        anew.write(0, 4, -1);
+        CHECK.due("a new row is all 0", anew.judge(0), 1);
+        anew.write(0, 2, 99);
+        anew.row(0, 2, 5);
+        anew.write(0, 4, -1);
+        CHECK.due("all of it", anew.judge(0), 1);
         CHECK.due("256 is itself in two bytes", withRow(1, 259).judge(0), 0);
         CHECK.due("65536 in four", withRow(2, 65539).judge(0), 0);
         CHECK.due("2 to the 32nd in eight", withRow(3, 4294967299L).judge(0), 0);

@@ -103,6 +103,11 @@ public final class StrokeTest {
         SixStroke none = of("", 0, 0);
         CHECK.due("nobody has anything", none.tops(), 3);
         CHECK.due("next", none.next(), 0);
+        none.have(0, 9);
+        none.have(1, 4);
+        CHECK.due("next by what is now", none.next(), 4);
+        none.have(0, 0);
+        none.have(1, 0);
         CHECK.due("none loses", none.stroke(), 0);
     }
 
@@ -145,6 +150,14 @@ public final class StrokeTest {
         CHECK.due("of what is SHOWN", x.stroke(), 8);
         has("of what is SHOWN", x, 12, 7, 4);
         CHECK.due("HIDDEN stays", x.person(0, 1), 5);
+        CHECK.due("WELL", x.count(4), 11);
+        // a DAY: 13 of which 5 HIDDEN, 8, 5: nobody loses
+        x.run(1);
+        CHECK.due("WELL", x.count(4), 11);
+        x.open();
+        x.have(0, 20);
+        CHECK.due("15 SHOWN, 11, 8", x.stroke(), 4);
+        CHECK.due("the WELL had 2", x.count(4), 6);
     }
 
     private static void shared() {
@@ -217,13 +230,13 @@ public final class StrokeTest {
         above.hide(1, 3);
         above.stroke();
         CHECK.due(second + " is below one more", above.person(1, 1), 0);
-        SixStroke one = of("found " + (second + 1) + ";", 10, 10);
-        one.hide(1, 3);
+        SixStroke one = of("found " + second + ";", 10, 10);
+        one.hide(1, 1);
         one.stroke();
         CHECK.due("who hides nothing takes no DRAW", one.person(1, 1), 0);
-        one.hide(1, 3);
+        one.hide(1, 1);
         one.stroke();
-        CHECK.due("the second DRAW", one.person(1, 1), 0);
+        CHECK.due("the second DRAW", one.person(1, 1), 1);
         CHECK.due("seed", one.seed(12345), 0);
         SixStroke seeded = of("found " + second + ";", 10, 10);
         seeded.seed(12345);

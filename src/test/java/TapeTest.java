@@ -36,6 +36,7 @@ public final class TapeTest {
         SixStroke x = new SixStroke();
         CHECK.due("feed", x.feed(0x746f776e, 0x20737465, 0x70732035, 0x3b000000, -1), 20);
         CHECK.due("bytes", x.count(3), 20);
+        CHECK.due("end of all", x.end(20), 20);
         CHECK.due("end beyond", x.end(21), -1);
         CHECK.due("end below 0", x.end(-1), -1);
         CHECK.due("bytes stay", x.count(3), 20);
@@ -101,6 +102,8 @@ public final class TapeTest {
         fault("town steps 5;" + (char) 233, 1, 13);
         fault("town steps 5;\0", 1, 13);
         fault("towns steps 5;", 1, 0);
+        fault("townz steps 5;", 1, 0);
+        fault("atown steps 5;", 1, 0);
         fault("town step 5;", 1, 5);
         fault("town steps five;", 1, 11);
         fault("town steps -5;", 1, 11);
@@ -152,6 +155,7 @@ public final class TapeTest {
         fault(TOWN + MAN + MAN + "sees 0 within 3;", 1, two + 7);
         fault(TOWN + "sees 0 1 within 3;" + MAN + MAN, 2, TOWN.length() + 5);
         SixStroke x = new SixStroke();
+        CHECK.due("within 1", Check.tell(x, TOWN + MAN + MAN + "sees 0 1 within 1;"), 4);
         CHECK.due("zeros ahead", Check.tell(x, "town steps 0000000000000000000020;"), 1);
         CHECK.due("steps", x.count(0), 20);
     }
@@ -169,6 +173,7 @@ public final class TapeTest {
         fault(eight + "person", 3, eight.length());
         String twelve = TOWN + MAN + MAN + "sees 0 1 within 3;".repeat(12);
         CHECK.due("twelve sees", Check.tell(x, twelve), 15);
+        CHECK.due("twelve more in another TOWN", Check.tell(x, twelve), 15);
         fault(twelve + "sees 0 1 within 3;", 3, twelve.length());
         fault(twelve + " sees", 3, twelve.length() + 1);
     }
@@ -180,6 +185,14 @@ public final class TapeTest {
         CHECK.due("found", x.count(11), 7);
         CHECK.due("has", x.person(0, 0), 2);
         fault("townsteps 5;", 1, 0);
+        Check.feed(x, "town steps 5;foundx");
+        x.end(18);
+        CHECK.due("what was cut off", x.town(), -4);
+        CHECK.due("is not read", x.fault(1), 18);
+        CHECK.due("a full TAPE", Check.tell(x, "a".repeat(1600)), -4);
+        CHECK.due("is one word", x.fault(1), 0);
+        CHECK.due("a full TAPE", Check.tell(x, TOWN + " ".repeat(1600 - TOWN.length() - 5) + "found"), -4);
+        CHECK.due("has its end at 1,600", x.fault(1), 1600);
         fault("town steps 1 0;", 2, 11);
         fault("town steps 10 0;", 1, 14);
     }
@@ -197,6 +210,12 @@ public final class TapeTest {
         for (int what = 0; what < want.length; what++) {
             CHECK.due("count " + what + " of the new TOWN", x.count(what), want[what]);
         }
+        Check.tell(x, TOWN + "law over 2 ties 4 goes shared least;found 50;" + MAN);
+        Check.tell(x, "town steps 10;" + Check.person(4, "1 1 1 1 1", "hide 3") + Check.person(4, "1 1 1 1 1", "work"));
+        for (int what = 7; what < 12; what++) {
+            CHECK.due("count " + what + " without law and found", x.count(what), what == 8 ? 2 : 0);
+        }
+        Check.tell(x, "town steps 10;" + Check.person(4, "1 1 1 1 1", "hide 3") + Check.person(4, "1 1 1 1 1", "work") + "found 1;");
         CHECK.due("nothing HIDDEN", x.person(0, 1), 0);
         CHECK.due("GOOD 0", x.person(0, 3), 0);
         CHECK.due("sees of the old one are gone", x.sight(0, 1, 1), 1);
