@@ -287,8 +287,8 @@ public final class ActTest {
         CHECK.due("9 instead of 5", works.know(1), 20);
         CHECK.due("knowing the first", works.knows(1, 0), 20);
         CHECK.due("knowing the third", works.knows(1, 2), 0);
-        // too tired to work: 10 against 9 seen as 0
-        SixStroke tired = Check.town("town steps 20;" + Check.person(9, "1 1 1 1 1", "work") + Check.person(10, "4 90 5 0 0", "best")
+        // too tired to work: 10 against 8 seen as 0; truly to give 1 is best, 9 at 9
+        SixStroke tired = Check.town("town steps 20;" + Check.person(8, "1 1 1 1 1", "work") + Check.person(10, "1 90 5 0 0", "best")
                 + "sees 1 0 within 10;");
         CHECK.due("rests, gives 5", tired.best(1, 1) * 100 + tired.best(1, 3), 5);
         CHECK.due("9 instead of 5", tired.know(1), 20);
@@ -322,6 +322,8 @@ public final class ActTest {
         CHECK.due("by what he SEES", x.hides(1, 0), 0);
         CHECK.due("by what he SEES: 6 * 75 by 100", x.hides(1, 2), 4);
         CHECK.due("edge: 6 - 6 f / 100 below 1", x.edge(1, 2), 84);
+        // hides 3: 3, gone 0
+        CHECK.due("edge: 9 - 9 f / 100 below 1", x.edge(1, 3), 89);
         SixStroke whole = Check.town("town steps 20;" + Check.person(20, "0 1 20 0 0", "work") + Check.person(10, "1 1 3 1 1", "work"));
         // 400 hidden, 200 gone, 200 open: by 99 it is 202
         CHECK.due("edge 100", whole.edge(0, 10), 100);
