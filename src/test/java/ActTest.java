@@ -78,6 +78,25 @@ public final class ActTest {
         CHECK.due("four left over", x.judge(1), 1);
         tellActs(x, 1, 0, 1, 6, 0);
         CHECK.due("four alone", x.judge(1), 0);
+        for (int left = 0; left < 5; left++) {
+            // 1 0 0 1 would be a gift of 1 to 0, if the number behind it were looked at
+            int[] rest = {1, 0, 0, 1};
+            int[] row = {0, 0, 0, 3, 1, 0, 0, 0, 0};
+            System.arraycopy(rest, 0, row, 5, left);
+            tellActs(x, 1, java.util.Arrays.copyOf(row, 5 + left));
+            CHECK.due(left + " left over", x.judge(1), 1);
+        }
+        tellActs(x, 1, 0, 0, 0, 3, 1, /**/ 0, 0, 0, 0, -1, /**/ 1, 0, 3, 0, -1, /**/ 0, 0, 1, 0, -1);
+        CHECK.due("the one to whom it was given eats it", x.judge(1), 3);
+        int[] full = new int[60];
+        for (int i = 4; i < 60; i += 5) {
+            full[i] = -1;
+        }
+        tellActs(x, 1, full);
+        CHECK.due("twelve ACTS in a full row", x.judge(1), 12);
+        full[57] = 4;
+        tellActs(x, 1, full);
+        CHECK.due("all but the last", x.judge(1), 11);
         x.row(2, 3, 5);
         x.write(2, 4, -1);
         CHECK.due("doing nothing", x.judge(2), 1);
@@ -344,6 +363,10 @@ public final class ActTest {
         // three lose 10 each to the one who shows 2: 20 even if he is found, 12 without hiding
         SixStroke more = Check.town("town steps 20;law over 0 ties 4 goes shared;" + Check.person(12, "0 1 5 0 0", "work").repeat(4));
         CHECK.due("even by 100 it is more", more.edge(0, 10), -1);
+        // both would LOSE all 5; who hides 4 shows 1 and keeps 5, or 1 if it is found: more than nothing
+        SixStroke just = Check.town("town steps 20;law over 0 ties 3 goes well;" + Check.person(5, "0 1 1 0 0", "work").repeat(2));
+        CHECK.due("by 100 it is just one more", just.edge(0, 4), -1);
+        CHECK.due("hiding all, by 100 it is nothing", just.edge(0, 5), 81);
         more.law(0, 3, 1, false);
         CHECK.due("three are not fewer than 3: hiding brings nothing", more.edge(0, 10), 0);
     }

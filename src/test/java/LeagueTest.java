@@ -208,6 +208,11 @@ public final class LeagueTest {
         CHECK.due("not 0 .. 10,000", out.mixed(0, 1), -1);
         CHECK.due("told the other way round: A -2, B -5", out.mixed(1, 0), 4000);
         CHECK.due("the other always eats, then the one", out.duel(0, 1), 8);
+        SixStroke unlike = Check.town("town steps 20;" + Check.person(5, "0 0 5 3 0", "work") + Check.person(5, "0 0 4 2 0", "work")
+                + Check.person(3, "0 0 1 1 1", "work"));
+        // the other: A: 16 + 2 - 20 = -2; if the one eats: 18 - 16 = 2; B = -4
+        CHECK.due("by what is worth to the other alone", unlike.mixed(0, 1), 5000);
+        CHECK.due("told the other way round: A -2, B -5", unlike.mixed(1, 0), 4000);
         SixStroke zero = Check.town("town steps 20;" + Check.person(5, "0 0 5 3 0", "work") + Check.person(5, "0 0 5 5 0", "work")
                 + Check.person(3, "0 0 1 1 1", "work"));
         // A: 20 + 5 - 25 = 0; if the one eats: 25 - 20 = 5; B = -5
