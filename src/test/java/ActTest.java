@@ -205,6 +205,11 @@ public final class ActTest {
         raised.law(30, 2, 0, true);
         CHECK.due("eats all, being raised to 8", raised.best(0, 2), 4);
         CHECK.due("its VALUE", raised.best(0, 0), 52);
+        // to eat the one he has and then give it, so that both others LOSE 10 to him, can't be
+        SixStroke both = Check.town("town steps 20;law over 0 ties 3 goes shared;" + Check.person(1, "0 1 1 99 0", "best")
+                + Check.person(10, "1 1 1 1 1", "work") + Check.person(9, "1 1 1 1 1", "work"));
+        CHECK.due("what is eaten is not given", both.best(0, 0), 99);
+        CHECK.due("nothing is given", both.best(0, 3), 0);
         SixStroke lazy = Check.town("town steps 20;" + Check.person(3, "1 50 5 4 0", "best") + Check.person(7, "1 1 1 1 1", "work"));
         int[] rest = {15, 0, 0, 0, -1};
         for (int what = 0; what < 5; what++) {
@@ -268,6 +273,8 @@ public final class ActTest {
         CHECK.due("four", Check.town("town steps 5;" + man.repeat(4)).rests(1), -2);
         CHECK.due("one alone has nothing, or loses all he does not eat",
                 Check.town("town steps 9;" + Check.person(1, "1 1 1 0 0", "work")).rests(6), 7);
+        CHECK.due("one alone keeps 1: only with 0 or 1 he rests",
+                Check.town("town steps 9;law over 1 ties 2 goes well;" + Check.person(1, "1 1 5 3 0", "work")).rests(6), 2);
         CHECK.due("one alone eats", Check.town("town steps 9;" + Check.person(1, "1 1 1 1 0", "work")).rests(6), 1);
     }
 

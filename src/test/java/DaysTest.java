@@ -468,6 +468,13 @@ public final class DaysTest {
         CHECK.due("DAY", x.count(6), 1);
         x.stroke();
         CHECK.due("people", x.count(1), 8);
+        SixStroke still = Check.town("town steps 20;" + Check.person(5, "0 0 1 0 0", "work").repeat(8));
+        CHECK.due("all eight HAVE what they HAVE", still.again(30), 1);
+        CHECK.due("all eight HAVE alike", still.alike(30), 1);
+        CHECK.due("all eight have the MOST", still.tops(), 255);
+        still.have(7, 6);
+        CHECK.due("the eighth alone", still.tops(), 128);
+        CHECK.due("the eighth LOSES 1 and never has it again", still.again(30), -1);
     }
 
     /** GOOD behind three DAYS, person by person. */

@@ -386,6 +386,10 @@ public final class EdgeTest {
         CHECK.due("one who has nothing", one.tops(), 1);
         CHECK.due("NEXT", one.next(), 0);
         CHECK.due("loses nothing", one.loses(0), 0);
+        SixStroke anew = of(20, "", 1, 2, 3);
+        CHECK.due("the third", anew.tops(), 4);
+        Check.tell(anew, "town steps 9;" + Check.person(0, STILL, "work") + Check.person(0, STILL, "work"));
+        CHECK.due("both of a smaller TOWN, who show nothing", anew.tops(), 3);
     }
 
     // II: "If fewer than ties have the MOST"

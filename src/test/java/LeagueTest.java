@@ -99,6 +99,9 @@ public final class LeagueTest {
         x.have(0, 11);
         CHECK.due("who loses already", x.breaks(2, 0), 0);
         CHECK.due("the least is 0", x.third(2), 0);
+        x.have(0, 16);
+        CHECK.due("who loses much already", x.breaks(2, 0), 0);
+        CHECK.due("who loses nothing, far from it, gives 0", x.gift(2, 0), 0);
         CHECK.due("alone", of("", 5).third(0), -1);
         SixStroke full = of("", 20, 20, 9);
         CHECK.due("beyond steps is gone", full.breaks(2, 1), -1);
