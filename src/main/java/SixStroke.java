@@ -81,8 +81,9 @@ public final class SixStroke {
         }
 
         void setHas(int n, int steps) {
-            has = Math.max(0, Math.min(n, steps));
-            hidden = Math.min(hidden, has);
+            int kept = n > steps ? steps : n;
+            has = kept < 0 ? 0 : kept;
+            hidden = hidden > has ? has : hidden;
         }
 
         /** JOY of eating so much, less tires if he works. */
@@ -221,8 +222,8 @@ public final class SixStroke {
         }
 
         void hand(int from, int to, int n) {
-            change(from, -n);
-            change(to, n);
+            persons[from].setHas(persons[from].has - n, steps);
+            persons[to].setHas(persons[to].has + n, steps);
         }
 
         int seenBy(int p, int q) {
@@ -342,7 +343,7 @@ public final class SixStroke {
             for (int p = 0; p < people; p++) {
                 int shown = has[p] - hidden[p];
                 if (shown > most) {
-                    next = Math.max(0, most);
+                    next = most < 0 ? 0 : most;
                     most = shown;
                     topBits = 1 << p;
                     topMany = 1;
@@ -353,7 +354,8 @@ public final class SixStroke {
                     next = shown;
                 }
             }
-            each = topMany < law.ties ? Math.max(0, most - next - law.over) : 0;
+            int above = most - next - law.over;
+            each = topMany < law.ties && above > 0 ? above : 0;
             lost = each * topMany;
         }
 
@@ -371,11 +373,8 @@ public final class SixStroke {
             int others = people - topMany;
             int share = goes == SHARED && others > 0 ? lost / others : 0;
             for (int p = 0; p < people; p++) {
-                if ((topBits >> p & 1) == 0) {
-                    has[p] = Math.min(steps, has[p] + share);
-                } else {
-                    has[p] -= each;
-                }
+                int more = (topBits >> p & 1) == 0 ? share : -each;
+                has[p] = more > steps - has[p] ? steps : has[p] + more;
             }
             if (goes != BURNT) {
                 well += lost - share * others;
@@ -383,9 +382,10 @@ public final class SixStroke {
         }
 
         private void raiseLeast() {
-            int lowest = Integer.MAX_VALUE;
-            int above = Integer.MAX_VALUE;
-            int who = NONE;
+            int beyond = steps + 1;
+            int lowest = beyond;
+            int above = beyond;
+            int who = 0;
             int many = 0;
             for (int p = 0; p < people; p++) {
                 int shown = has[p] - hidden[p];
@@ -400,10 +400,10 @@ public final class SixStroke {
                     above = shown;
                 }
             }
-            if (many == 1 && above != Integer.MAX_VALUE) {
-                int raise = Math.min(well, above - lowest);
+            if (many == 1 && above != beyond) {
+                int raise = well < above - lowest ? well : above - lowest;
                 well -= raise;
-                has[who] = Math.min(steps, has[who] + raise);
+                has[who] = raise > steps - has[who] ? steps : has[who] + raise;
             }
         }
     }
@@ -499,7 +499,8 @@ public final class SixStroke {
             }
         }
 
-        boolean isRestless(Town town) {
+        boolean isRestless(Town town, int p) {
+            see(town, p, 0, true);
             int still = worthOf(town, 0, 0, 0, NONE);
             value = still;
             search(town, 0);
@@ -943,8 +944,19 @@ public final class SixStroke {
         return isPerson(p) && isPerson(q) && p != q;
     }
 
-    private boolean areDays(int n) {
+    private static boolean areDays(int n) {
         return n >= 1 && n <= MOST_DAYS;
+    }
+
+    /** There are so many DAYS, and somebody to live them. */
+    private boolean canPass(int n) {
+        return areDays(n) && now.people > 0;
+    }
+
+    /** The TOWN as it is now, to be changed in thought. */
+    private Town startThought() {
+        thoughts[0].copyFrom(now);
+        return thoughts[0];
     }
 
     private static boolean isWay(long way) {
@@ -1074,8 +1086,7 @@ public final class SixStroke {
         if (!told.hasRow) {
             return HAS_NOTHING;
         }
-        Town town = thoughts[0];
-        town.copyFrom(now);
+        Town town = startThought();
         int acts = told.size / ACT_NUMBERS;
         for (int i = 0; i < acts; i++) {
             if (!doInThought(town, told.numbers, i * ACT_NUMBERS)) {
@@ -1098,7 +1109,7 @@ public final class SixStroke {
     }
 
     public int run(int n) {
-        if (!areDays(n) || now.people == 0) {
+        if (!canPass(n)) {
             return NO_SUCH;
         }
         int lost = 0;
@@ -1165,10 +1176,10 @@ public final class SixStroke {
             return NO_SUCH;
         }
         int whom = NONE;
-        int least = Integer.MAX_VALUE;
+        int least = NONE;
         for (int q = 0; q < now.people; q++) {
             int n = q == p ? NONE : leastSaving(p, q);
-            if (n != NONE && n < least) {
+            if (n != NONE && (least == NONE || n < least)) {
                 least = n;
                 whom = q;
             }
@@ -1176,15 +1187,10 @@ public final class SixStroke {
         return whom;
     }
 
-    private boolean isRestless(Town town, int p) {
-        mind.see(town, p, 0, true);
-        return mind.isRestless(town);
-    }
-
     private int restlessBits(Town town) {
         int bits = 0;
         for (int p = 0; p < town.people; p++) {
-            if (isRestless(town, p)) {
+            if (mind.isRestless(town, p)) {
                 bits |= 1 << p;
             }
         }
@@ -1199,10 +1205,9 @@ public final class SixStroke {
         if (k < 1 || k > 6 || now.people < 1 || now.people > 3) {
             return NO_SUCH;
         }
-        Town town = thoughts[0];
-        town.copyFrom(now);
+        Town town = startThought();
         // nobody can HAVE more than steps, so such ways are none
-        int base = Math.min(k, now.steps) + 1;
+        int base = Math.max(1, Math.min(k, now.steps) + 1);
         int all = 1;
         for (int p = 0; p < now.people; p++) {
             town.persons[p].hidden = 0;
@@ -1230,8 +1235,7 @@ public final class SixStroke {
     }
 
     private int goodBy(int p, int way, int n) {
-        Town town = thoughts[0];
-        town.copyFrom(now);
+        Town town = startThought();
         turnInThought(town, p, way);
         for (int day = 0; day < n; day++) {
             walk.pass(town, true);
@@ -1247,7 +1251,7 @@ public final class SixStroke {
         if (!isPerson(p) || !areDays(n)) {
             return NO_SUCH;
         }
-        int most = Integer.MIN_VALUE;
+        int most = NOTHING;
         int which = 0;
         for (int way = 0; way < WAYS; way++) {
             int good = goodBy(p, way, n);
@@ -1269,11 +1273,10 @@ public final class SixStroke {
     }
 
     public int idle(int n) {
-        if (!areDays(n) || now.people == 0) {
+        if (!canPass(n)) {
             return NO_SUCH;
         }
-        Town town = thoughts[0];
-        town.copyFrom(now);
+        Town town = startThought();
         int many = 0;
         for (int day = 0; day < n; day++) {
             walk.pass(town, true);
@@ -1287,12 +1290,11 @@ public final class SixStroke {
     }
 
     public int beside(int n, int what) {
-        if (!areDays(n) || now.people == 0 || what < 0 || what > 4) {
+        if (!canPass(n) || what < 0 || what > 4) {
             return NOTHING;
         }
         boolean struck = what != 1 && what != 4;
-        Town town = thoughts[0];
-        town.copyFrom(now);
+        Town town = startThought();
         int lost = 0;
         for (int day = 0; day < n; day++) {
             walk.pass(town, struck);
@@ -1319,12 +1321,12 @@ public final class SixStroke {
     }
 
     public int laws(int n) {
-        if (!areDays(n) || now.people == 0) {
+        if (!canPass(n)) {
             return NO_SUCH;
         }
         int which = LEAST_TIES;
-        int least = Integer.MAX_VALUE;
-        for (int ties = LEAST_TIES; ties <= MOST_TIES; ties++) {
+        int least = spreadByTies(which, n);
+        for (int ties = LEAST_TIES + 1; ties <= MOST_TIES; ties++) {
             int spread = spreadByTies(ties, n);
             if (spread < least) {
                 least = spread;
@@ -1335,8 +1337,7 @@ public final class SixStroke {
     }
 
     private int spreadByTies(int ties, int n) {
-        Town town = thoughts[0];
-        town.copyFrom(now);
+        Town town = startThought();
         town.law.ties = ties;
         for (int day = 0; day < n; day++) {
             walk.pass(town, true);
@@ -1348,13 +1349,12 @@ public final class SixStroke {
         if (!arePair(one, other)) {
             return NO_SUCH;
         }
-        Town town = thoughts[0];
-        town.copyFrom(now);
+        Town town = startThought();
         int more = Math.max(now.persons[one].has, now.persons[other].has);
         town.persons[one].has = more;
         town.persons[other].has = more;
-        int who = isRestless(town, one) ? 1 : 0;
-        return isRestless(town, other) ? who + 2 : who;
+        int who = mind.isRestless(town, one) ? 1 : 0;
+        return mind.isRestless(town, other) ? who + 2 : who;
     }
 
     public int breaks(int p, int to) {
@@ -1482,8 +1482,7 @@ public final class SixStroke {
         if (!isPerson(p) || !areDays(n)) {
             return NO_SUCH;
         }
-        Town town = thoughts[0];
-        town.copyFrom(now);
+        Town town = startThought();
         int sum = 0;
         for (int day = 0; day < n; day++) {
             walk.pass(town, true);
@@ -1493,11 +1492,10 @@ public final class SixStroke {
     }
 
     public int quiet(int n, int what) {
-        if (!areDays(n) || what < 0 || what > 1 || now.people == 0) {
+        if (!canPass(n) || what < 0 || what > 1) {
             return NO_SUCH;
         }
-        Town town = thoughts[0];
-        town.copyFrom(now);
+        Town town = startThought();
         int many = 0;
         int first = 0;
         for (int day = 1; day <= n; day++) {
@@ -1520,11 +1518,10 @@ public final class SixStroke {
     }
 
     public int again(int n) {
-        if (!areDays(n) || now.people == 0) {
+        if (!canPass(n)) {
             return NO_SUCH;
         }
-        Town town = thoughts[0];
-        town.copyFrom(now);
+        Town town = startThought();
         for (int day = 1; day <= n; day++) {
             walk.pass(town, true);
             if (hasAsNow(town)) {
@@ -1535,11 +1532,10 @@ public final class SixStroke {
     }
 
     public int alike(int n) {
-        if (!areDays(n) || now.people == 0) {
+        if (!canPass(n)) {
             return NO_SUCH;
         }
-        Town town = thoughts[0];
-        town.copyFrom(now);
+        Town town = startThought();
         for (int day = 1; day <= n; day++) {
             walk.pass(town, true);
             if (town.spreadOut() == 0) {
@@ -1566,8 +1562,7 @@ public final class SixStroke {
             return NOTHING;
         }
         Slot told = slots[slot];
-        Town town = thoughts[0];
-        town.copyFrom(now);
+        Town town = startThought();
         for (int day = 0; day < told.size; day++) {
             turnInThought(town, p, (int) told.numbers[day]);
             walk.pass(town, true);
@@ -1583,7 +1578,7 @@ public final class SixStroke {
         for (int day = 0; day < n; day++) {
             rows *= WAYS;
         }
-        planned[0] = Integer.MIN_VALUE;
+        planned[0] = NOTHING;
         for (int row = 0; row < rows; row++) {
             int good = goodByRow(p, n, row, rows);
             if (good > planned[0]) {

@@ -1,3 +1,5 @@
+import java.io.PrintWriter;
+import java.io.StringWriter;
 import java.lang.reflect.Member;
 import java.lang.reflect.Method;
 import java.lang.reflect.Modifier;
@@ -6,10 +8,13 @@ import java.nio.file.Path;
 import java.util.ArrayList;
 import java.util.Arrays;
 import java.util.List;
+import java.util.Map;
 import java.util.Set;
+import java.util.TreeMap;
 import java.util.TreeSet;
 import java.util.regex.Matcher;
 import java.util.regex.Pattern;
+import java.util.spi.ToolProvider;
 
 /** The face, and what of ../shared/LANGUAGE.md can be seen from the source and the class. */
 public final class LanguageTest {
@@ -24,11 +29,22 @@ public final class LanguageTest {
         "plan int int int", "open", "duel int int", "mixed int int", "seed int", "count int", "keep int", "back int",
         "row int int int", "write int int long", "paste int int int int int"};
 
+    /** What the class may call of the library (rule 4): the start of each name as the machine has it. */
+    private static final List<String> LIBRARY = List.of("java/lang/Object.<init>", "java/lang/Math.min", "java/lang/Math.max",
+            "java/lang/Math.abs", "java/lang/String.length", "java/lang/String.charAt", "java/lang/System.arraycopy");
+    private static final int MOST_DEEP = 8;
+
+    /** Each method of the class and of those inside it, with those that it calls. */
+    private static final Map<String, Set<String>> CALLS = new TreeMap<>();
+
     public static void main(String[] args) throws Exception {
         face();
         nested();
         words();
         sizes();
+        readCalls();
+        library();
+        depths();
         CHECK.close();
     }
 
@@ -96,7 +112,7 @@ public final class LanguageTest {
         }
         List<String> named = new ArrayList<>();
         Matcher m = Pattern.compile("\\b(System|Math|Integer|Long|Arrays)\\.(\\w+)").matcher(code);
-        Set<String> may = Set.of("System.arraycopy", "Math.min", "Math.max", "Math.abs", "Integer.MAX_VALUE", "Integer.MIN_VALUE");
+        Set<String> may = Set.of("System.arraycopy", "Math.min", "Math.max", "Math.abs");
         while (m.find()) {
             if (!may.contains(m.group())) {
                 named.add(m.group());
@@ -125,5 +141,67 @@ public final class LanguageTest {
                 start = 0;
             }
         }
+    }
+
+    /** What javap tells of the compiled class; what is made outside of a constructor is held against it at once. */
+    private static void readCalls() {
+        List<String> args = new ArrayList<>(List.of("-c", "-p", "-cp", System.getProperty("java.class.path"), "SixStroke"));
+        for (Class<?> c : SixStroke.class.getDeclaredClasses()) {
+            args.add(c.getName());
+        }
+        StringWriter told = new StringWriter();
+        PrintWriter out = new PrintWriter(told);
+        ToolProvider.findFirst("javap").orElseThrow().run(out, out, args.toArray(new String[0]));
+        Pattern heading = Pattern.compile("^(?:\\w+ )*class (\\S+) ");
+        Pattern method = Pattern.compile("^  (?:\\S+ )*([\\w$]+)\\(.*\\);$");
+        Pattern call = Pattern.compile("// (?:Interface)?Method ([^:]+):");
+        String owner = "";
+        String at = "";
+        for (String line : told.toString().split("\n")) {
+            Matcher m = heading.matcher(line);
+            if (m.find()) {
+                owner = m.group(1);
+                continue;
+            }
+            m = method.matcher(line);
+            if (m.find()) {
+                at = owner + "." + (m.group(1).equals(owner) ? "<init>" : m.group(1));
+                CALLS.putIfAbsent(at, new TreeSet<>());
+                continue;
+            }
+            m = call.matcher(line);
+            if (m.find()) {
+                String name = m.group(1).replace("\"", "");
+                CALLS.get(at).add(name.contains(".") ? name : owner + "." + name);
+            }
+            if (line.matches(" +\\d+: (new|newarray|anewarray|multianewarray|athrow|invokedynamic)\\b.*")) {
+                CHECK.due(at + " has " + line.trim(), at.endsWith("<init>") ? 0 : 1, 0);
+            }
+        }
+    }
+
+    private static void library() {
+        CHECK.due("methods were read", CALLS.size() > 100 ? 1 : 0, 1);
+        for (String at : CALLS.keySet()) {
+            for (String name : CALLS.get(at)) {
+                CHECK.due(at + " calls " + name, CALLS.containsKey(name) || LIBRARY.contains(name) ? 1 : 0, 1);
+            }
+        }
+    }
+
+    /** No call goes deeper than eight, those of the library counted (rule 11), and none comes back to itself (rule 8). */
+    private static void depths() {
+        for (String at : CALLS.keySet()) {
+            int deep = depth(at, 1);
+            CHECK.due(at + " goes too deep", deep > MOST_DEEP ? deep : 0, 0);
+        }
+    }
+
+    private static int depth(String at, int above) {
+        int most = above;
+        for (String name : CALLS.getOrDefault(at, Set.of())) {
+            most = Math.max(most, above > 2 * MOST_DEEP ? above : depth(name, above + 1));
+        }
+        return most;
     }
 }
